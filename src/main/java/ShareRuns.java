@@ -275,8 +275,8 @@ public final class ShareRuns {
         }
 
         // Shares are taken in the order of their numbers, and one that was dropped never waits
-        // again, so those that wait are always the ones from next up to the barrier, which is
-        // the least share that has settled.
+        // again, so those that wait are always the ones from next up to the barrier: the least
+        // share that settles and is done, or the number of shares as long as there is none.
         private boolean someShareWaits() {
             return next < barrier;
         }
@@ -302,7 +302,8 @@ public final class ShareRuns {
                 takeNext(worker);
             }
             int share = held[worker];
-            if (isDoneByOneMore(share)) {
+            boolean isDone = spendTick(share);
+            if (isDone) {
                 finish(share, worker);
             }
         }
@@ -331,7 +332,7 @@ public final class ShareRuns {
             }
         }
 
-        private boolean isDoneByOneMore(int share) {
+        private boolean spendTick(int share) {
             if (!plan.has(share)) {
                 return false;
             }
