@@ -6,8 +6,29 @@ final class Checks {
     static final String INDEX = "IndexOutOfBoundsException";
     static final String ARGUMENT = "IllegalArgumentException";
 
+    private String about = "";
+    private int sentences = 0;
     private int made = 0;
     private int wrong = 0;
+
+    /**
+     * A sentence of the document, the number of the promise that it belongs to, and its own test.
+     * One that ends by an exception, or that checks nothing, fails; the others are run all the same.
+     */
+    void sentence(int promise, String words, Runnable test) {
+        about = "promise " + promise + ", \"" + words + "\": ";
+        sentences++;
+        int before = made;
+        try {
+            test.run();
+        } catch (RuntimeException thrown) {
+            due("its test", "ended by " + thrown, "an end without an exception");
+        }
+        if (made == before) {
+            due("its test", "checked nothing", "a check");
+        }
+        about = "";
+    }
 
     void due(String what, long got, long want) {
         due(what, Long.toString(got), Long.toString(want));
@@ -21,7 +42,7 @@ final class Checks {
         made++;
         if (!got.equals(want)) {
             wrong++;
-            System.out.println(what + " answered " + got + ", due is " + want);
+            System.out.println(about + what + " answered " + got + ", due is " + want);
         }
     }
 
@@ -44,7 +65,8 @@ final class Checks {
     }
 
     void end(String test) {
-        System.out.println(test + ": " + made + " checks, " + wrong + " wrong");
+        String ofSentences = sentences == 0 ? "" : sentences + " sentences, ";
+        System.out.println(test + ": " + ofSentences + made + " checks, " + wrong + " wrong");
         if (wrong != 0 || made == 0) {
             System.exit(1);
         }

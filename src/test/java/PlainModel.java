@@ -23,10 +23,6 @@ final class PlainModel {
         int at = 0;
     }
 
-    private static final BigInteger TWO_64 = BigInteger.ONE.shiftLeft(64);
-    private static final BigInteger FACTOR = new BigInteger("6364136223846793005");
-    private static final BigInteger STEP = new BigInteger("1442695040888963407");
-
     private final Share[] shares;
     private boolean known = false;
     private int[] moved = new int[0];
@@ -86,14 +82,13 @@ final class PlainModel {
             s.by = -1;
             s.at = 0;
         }
-        BigInteger r = BigInteger.valueOf(seed).mod(TWO_64);
+        Draws draws = new Draws(seed);
         List<Integer> able = ableWorkers();
         while (!able.isEmpty()) {
             if (allTicks == limit) {
                 return -2;
             }
-            r = r.multiply(FACTOR).add(STEP).mod(TWO_64);
-            move(able.get(r.shiftRight(33).mod(BigInteger.valueOf(able.size())).intValue()));
+            move(able.get(draws.aheadOf(able.size())));
             able = ableWorkers();
         }
         known = true;
