@@ -1,6 +1,6 @@
 /**
- * The sentences of the document's sections "Promise 1" to "Promise 12", each by a test of its own
- * that bears the promise's number: ordinary inputs, edges, wrong inputs.
+ * The sentences of the document's sections "Promise 1" to "Promise 12" and "What it is", each by a
+ * test of its own that bears the promise's number: ordinary inputs, edges, wrong inputs.
  */
 public final class PromisesTest {
     private static final int MIN = Answers.MIN;
@@ -24,7 +24,7 @@ public final class PromisesTest {
         test.ofFailed();
         test.ofAt();
         test.ofCount();
-        test.ofAllCalls();
+        test.ofAllRuns();
         test.checks.end("PromisesTest");
     }
 
@@ -636,10 +636,57 @@ public final class PromisesTest {
         checks.due("behind a refused one", x.count(), 7);
     }
 
-    // "An object is used for at most 512 calls"
+    // "What it is"
 
-    private void ofAllCalls() {
+    private void ofAllRuns() {
+        checks.sentence(4, "which worker moves is told by a seed", this::sameSeedSameRun);
+        checks.sentence(6, "what is counted is the same however it goes", this::sameHoweverItGoes);
         checks.sentence(4, "at most 512 calls after it has been made", this::longestRunsToTheLastCall);
+    }
+
+    private void sameSeedSameRun() {
+        ShareRuns x = Samples.ofMany(4);
+        x.run(5, 77L, MOST);
+        String first = Answers.all(x);
+        x.run(5, 78L, MOST);
+        checks.due("another seed tells another run", Answers.all(x).equals(first), false);
+        x.run(5, 77L, MOST);
+        checks.due("the seed again, behind another run", Answers.all(x), first);
+        ShareRuns y = Samples.ofMany(4);
+        y.run(5, 77L, MOST);
+        checks.due("the seed on another object", Answers.all(y), first);
+    }
+
+    private void sameHoweverItGoes() {
+        for (int winner : new int[] {-1, 0, 3, 5}) {
+            for (int workers = 1; workers <= 16; workers++) {
+                ShareRuns x = Samples.ofMany(winner);
+                for (long seed = -8; seed < 8; seed++) {
+                    String how = workers + " workers, seed " + seed;
+                    checks.due("winner, " + how, x.run(workers, seed, MOST), winner);
+                    checks.due("answer, " + how, x.answer(), winner < 0 ? 15L : winner);
+                    checks.due("counted, " + how, x.ticks(0),
+                            Samples.neededUpTo(winner < 0 ? 5 : winner));
+                    checks.due("failed, " + how, failures(x), failuresUpTo(winner < 0 ? 5 : winner));
+                }
+            }
+        }
+    }
+
+    private static String failures(ShareRuns x) {
+        StringBuilder failures = new StringBuilder();
+        for (int share = 0; share < x.count(); share++) {
+            failures.append(x.failed(share)).append(' ');
+        }
+        return failures.toString();
+    }
+
+    private static String failuresUpTo(int last) {
+        StringBuilder failures = new StringBuilder();
+        for (int share = 0; share < Samples.SHARES; share++) {
+            failures.append(share <= last ? Samples.faultsOf(share) : 0).append(' ');
+        }
+        return failures.toString();
     }
 
     private void longestRunsToTheLastCall() {

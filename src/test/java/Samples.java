@@ -1,6 +1,6 @@
 /** Six shares of several works and faults, used where a test needs some that are not alike. */
 final class Samples {
-    private static final int SHARES = 6;
+    static final int SHARES = 6;
 
     private Samples() {
     }
@@ -28,7 +28,7 @@ final class Samples {
         return 12 - 2 * share;
     }
 
-    private static int faultsOf(int share) {
+    static int faultsOf(int share) {
         return share % 4;
     }
 }
